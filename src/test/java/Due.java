@@ -48,12 +48,17 @@ final class Due {
         is(call, outcome(made), "throws.IllegalStateException");
     }
 
-    /** The answer, or the exact class of what was thrown: what the machine throws is another one. */
+    /**
+     * The answer, or what was thrown: its exact class, since what the machine throws is another one,
+     * and a word where a class of the library threw it and not Probeweb itself.
+     */
     static String outcome(Call made) {
         try {
             return String.valueOf(made.answer());
         } catch (RuntimeException thrown) {
-            return "throws." + thrown.getClass().getSimpleName();
+            String where = thrown.getStackTrace()[0].getClassName();
+            String thrower = where.startsWith("Probeweb") ? "" : " in " + where;
+            return "throws." + thrown.getClass().getSimpleName() + thrower;
         }
     }
 
