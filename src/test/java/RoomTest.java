@@ -11,13 +11,14 @@ public final class RoomTest {
         long before = bytesMade();
         Probeweb mesh = runWithManyAlarms();
         long made = bytesMade() - before;
-        System.out.println(made + " bytes made, " + mesh.alarms() + " alarms in " + mesh.minute() + " minutes");
-        due.is("alarms are raised in the run", mesh.alarms() > 500, true);
+        int alarms = mesh.alarms();
+        System.out.println(made + " bytes made, " + alarms + " alarms in " + mesh.minute() + " minutes");
+        due.is("alarms are raised in the run", alarms > 500, true);
         due.is("at most " + MOST_BYTES + " bytes are made", made <= MOST_BYTES, true);
         due.end();
     }
 
-    /** Every other pair of calls cuts a region and gives it back, which wakes all checks. */
+    /** Every other pair of calls cuts a region and gives it back, which wakes all checks; two calls are left. */
     private static Probeweb runWithManyAlarms() {
         Probeweb mesh = new Probeweb();
         for (int region = 0; region < 6; region++) {
@@ -26,7 +27,7 @@ public final class RoomTest {
         for (int check = 0; check < 8; check++) {
             mesh.addCheck(1 + check, 3 * check, check % 4, 1);
         }
-        for (int call = 14; call < CALLS; call += 2) {
+        for (int call = 14; call < CALLS - 2; call += 2) {
             mesh.setCut(call / 4 % 6, call % 4 == 2);
             mesh.pass(200);
         }

@@ -18,12 +18,11 @@ public final class VerdictsAndAlarmsTest {
         promise24AlarmClosed();
         promise25Availability();
         promise25Share();
-        missingChecksAndAlarms();
         due.end();
     }
 
     private static void promise17IsBad() {
-        Probeweb mesh = mesh(1, 1);
+        Probeweb mesh = Meshes.simple(1, 1);
         mesh.setDown(0, 0, true);
         mesh.pass(5);
         due.is("isBad(0): one vote is too few", mesh.isBad(0), false);
@@ -37,7 +36,7 @@ public final class VerdictsAndAlarmsTest {
         mesh.pass(1);
         due.is("isBad(0): 1 of 2 down is not more than half", mesh.isBad(0), false);
 
-        Probeweb early = mesh(0, 2);
+        Probeweb early = Meshes.simple(0, 2);
         early.setDown(0, early.addRegion(-1), true);
         early.setDown(1, 0, true);
         early.setCut(0, true);
@@ -50,7 +49,7 @@ public final class VerdictsAndAlarmsTest {
 
     private static void promise17MoreThanHalf() {
         for (int checks = 2; checks <= 8; checks++) {
-            Probeweb mesh = mesh(2, checks);
+            Probeweb mesh = Meshes.simple(2, checks);
             mesh.pass(2);
             for (int down = 1; down <= checks; down++) {
                 mesh.setDown(checks - down, 1, true);
@@ -84,7 +83,7 @@ public final class VerdictsAndAlarmsTest {
     }
 
     private static void promise18Verdict() {
-        Probeweb mesh = mesh(1, 1);
+        Probeweb mesh = Meshes.simple(1, 1);
         due.is("verdict(0) in 0", mesh.verdict(0), 0);
         mesh.pass(1);
         due.is("verdict(0) in 1", mesh.verdict(0), 1);
@@ -98,7 +97,7 @@ public final class VerdictsAndAlarmsTest {
         mesh.pass(1);
         due.is("verdict(1): a minute later", mesh.verdict(1), 1);
 
-        Probeweb empty = mesh(0, 1);
+        Probeweb empty = Meshes.simple(0, 1);
         empty.pass(3);
         due.is("verdict(0), no region", empty.verdict(0), 0);
     }
@@ -129,7 +128,7 @@ public final class VerdictsAndAlarmsTest {
 
     /** One region that is cut off from the others wakes nobody. */
     private static void promise18BadRegions() {
-        Probeweb mesh = mesh(3, 2);
+        Probeweb mesh = Meshes.simple(3, 2);
         mesh.pass(3);
         mesh.setCut(2, true);
         due.is("pass(1), 2 cut off", mesh.pass(1), 0);
@@ -190,7 +189,7 @@ public final class VerdictsAndAlarmsTest {
     }
 
     private static void promise19AsTheyAreNow() {
-        Probeweb mesh = mesh(2, 2);
+        Probeweb mesh = Meshes.simple(2, 2);
         mesh.pass(2);
         mesh.setCut(0, true);
         due.is("trusted(0): 0 is cut, and not bad yet", mesh.trusted(0), 0b11);
@@ -208,7 +207,7 @@ public final class VerdictsAndAlarmsTest {
     }
 
     private static void promise20Alarms() {
-        Probeweb mesh = mesh(4, 3);
+        Probeweb mesh = Meshes.simple(4, 3);
         mesh.pass(4);
         due.is("alarms(), none down", mesh.alarms(), 0);
         mesh.setDown(0, 0, true);
@@ -226,7 +225,7 @@ public final class VerdictsAndAlarmsTest {
     }
 
     private static void promise21HasAlarm() {
-        Probeweb mesh = mesh(2, 2);
+        Probeweb mesh = Meshes.simple(2, 2);
         due.is("hasAlarm(0) in 0", mesh.hasAlarm(0), false);
         mesh.setDown(0, 0, true);
         mesh.pass(2);
@@ -285,7 +284,7 @@ public final class VerdictsAndAlarmsTest {
 
     /** Alarms of check 1 from 5 to 9, 0 from 7 to 11, 2 from 7 and 1 from 10; in minute 11 at the end. */
     private static Probeweb alarmsOfThreeChecks() {
-        Probeweb mesh = mesh(4, 3);
+        Probeweb mesh = Meshes.simple(4, 3);
         mesh.pass(4);
         mesh.setDown(1, 1, true);
         mesh.pass(2);
@@ -302,7 +301,7 @@ public final class VerdictsAndAlarmsTest {
     }
 
     private static void promise25Availability() {
-        Probeweb mesh = mesh(1, 2);
+        Probeweb mesh = Meshes.simple(1, 2);
         due.badState("availability(0) in 0", () -> (long) mesh.availability(0));
         mesh.setQuorum(1, 2);
         mesh.pass(3);
@@ -330,7 +329,7 @@ public final class VerdictsAndAlarmsTest {
     }
 
     private static void promise25Share() {
-        Probeweb mesh = mesh(1, 1);
+        Probeweb mesh = Meshes.simple(1, 1);
         int up = 0;
         int counted = 0;
         for (int call = 1; call <= 120; call++) {
@@ -341,34 +340,5 @@ public final class VerdictsAndAlarmsTest {
             counted += call;
             due.is("availability(0): " + up + " of " + counted, mesh.availability(0), (float) up / (float) counted);
         }
-    }
-
-    private static void missingChecksAndAlarms() {
-        Probeweb mesh = mesh(1, 1);
-        mesh.setDown(0, 0, true);
-        mesh.pass(1);
-        for (int number : new int[] {-1, 1, 6, 8, 32, Integer.MAX_VALUE, Integer.MIN_VALUE}) {
-            String where = "(" + number + ")";
-            due.noIndex("isBad" + where, () -> Due.number(mesh.isBad(number)));
-            due.noIndex("verdict" + where, () -> mesh.verdict(number));
-            due.noIndex("trusted" + where, () -> mesh.trusted(number));
-            due.noIndex("hasAlarm" + where, () -> Due.number(mesh.hasAlarm(number)));
-            due.noIndex("alarmCheck" + where, () -> mesh.alarmCheck(number));
-            due.noIndex("alarmRaised" + where, () -> mesh.alarmRaised(number));
-            due.noIndex("alarmClosed" + where, () -> mesh.alarmClosed(number));
-            due.noIndex("availability" + where, () -> (long) mesh.availability(number));
-        }
-    }
-
-    /** Regions without parents, and checks probed in each minute, without repetitions, with quorum 1. */
-    private static Probeweb mesh(int regions, int checks) {
-        Probeweb mesh = new Probeweb();
-        for (int region = 0; region < regions; region++) {
-            mesh.addRegion(-1);
-        }
-        for (int check = 0; check < checks; check++) {
-            mesh.addCheck(1, 0, 0, 1);
-        }
-        return mesh;
     }
 }
